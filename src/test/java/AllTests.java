@@ -1,0 +1,20 @@
+/** Runs all tests; the arguments are the paths of DOC.md and of RepairAuction.java. */
+final class AllTests {
+    private AllTests() {
+    }
+
+    public static void main(String[] args) throws Exception {
+        InputTest.run();
+        RingTest.run();
+        LossTest.run();
+        BidTest.run();
+        ChangeTest.run();
+        RoundTest.run();
+        ForecastTest.run();
+        OutputTest.run();
+        System.out.println(Check.passed() + " passed, " + Check.failed() + " failed");
+        if (Check.failed() > 0) {
+            System.exit(1);
+        }
+    }
+}

@@ -1,0 +1,120 @@
+import java.nio.charset.StandardCharsets;
+
+/** Puts texts into the input buffer and reads the output buffer. */
+final class Texts {
+    static final String RING = "ring bandwidth 100 carry 30 reserve 5 price first;";
+
+    /**
+     * ga has its shards on na and nb, gb on nb, nc and nd; the losses are 0.02 and 0.01, the costs
+     * of a shard 20 and 15 units.
+     */
+    static final String SMALL = RING
+            + "node na at 100 zone 0 risk 100 room 3;"
+            + "node nb at 2600 zone 1 risk 200 room 3;"
+            + "node nc at 5100 zone 2 risk 0 room 3;"
+            + "node nd at 7600 zone 0 risk 50 room 3;"
+            + "tenant ta income 1000 most 5000;"
+            + "tenant tb income 0 most 0;"
+            + "group ga of ta key 0 data 1 parity 1 size 10 value 20;"
+            + "group gb of tb key 2600 data 2 parity 1 size 5 value 9999;";
+
+    private Texts() {
+    }
+
+    static void append(RepairAuction x, String text) {
+        byte[] bytes = text.getBytes(StandardCharsets.ISO_8859_1);
+        int length = 0;
+        for (int from = 0; from < bytes.length; from += 20) {
+            length = x.append(four(bytes, from), four(bytes, from + 4), four(bytes, from + 8),
+                    four(bytes, from + 12), four(bytes, from + 16));
+        }
+        int surplus = (20 - bytes.length % 20) % 20;
+        if (surplus > 0) {
+            x.truncate(length - surplus);
+        }
+    }
+
+    private static int four(byte[] bytes, int from) {
+        int value = 0;
+        for (int i = from; i < from + 4; i++) {
+            value = value << 8 | (i < bytes.length ? bytes[i] & 255 : ' ');
+        }
+        return value;
+    }
+
+    static int load(RepairAuction x, String text) {
+        append(x, text);
+        return x.load();
+    }
+
+    static RepairAuction loaded(String text) {
+        RepairAuction x = new RepairAuction();
+        Check.yes("load() of " + text, load(x, text) >= 0);
+        return x;
+    }
+
+    /** Sixteen nodes, a tenant, and ten groups of ten shards that offer 9999 as soon as four are missing. */
+    static String large() {
+        StringBuilder text = new StringBuilder("ring bandwidth 99999 carry 0 reserve 0 price first;");
+        for (int node = 0; node < 16; node++) {
+            text.append("node ").append((char) ('a' + node)).append(" at ").append(node);
+            text.append(" zone 0 risk 999 room 50;");
+        }
+        text.append("tenant t income 999999 most 999999;");
+        for (int group = 0; group < 10; group++) {
+            text.append("group ").append((char) ('a' + group));
+            text.append(" of t key 0 data 6 parity 4 size 100 value 9999;");
+        }
+        return text.toString();
+    }
+
+    /** All that an object tells of its state, undoCount() and the two buffers aside. */
+    static String state(RepairAuction x) {
+        StringBuilder text = new StringBuilder();
+        text.append(x.bandwidth()).append(' ').append(x.nextRound()).append(' ').append(x.clearingPrice());
+        for (int node = 0; node < x.count(0); node++) {
+            text.append("\nnode");
+            for (int what = 0; what < 7; what++) {
+                text.append(' ').append(x.node(node, what));
+            }
+        }
+        for (int tenant = 0; tenant < x.count(1); tenant++) {
+            text.append("\ntenant");
+            for (int what = 0; what < 5; what++) {
+                text.append(' ').append(x.tenant(tenant, what));
+            }
+        }
+        for (int group = 0; group < x.count(2); group++) {
+            text.append("\ngroup");
+            for (int what = 0; what < 9; what++) {
+                text.append(' ').append(x.group(group, what));
+            }
+            for (int shard = 0; shard < x.group(group, 2) + x.group(group, 3); shard++) {
+                text.append(" on ").append(x.nodeOf(group, shard));
+            }
+        }
+        for (int index = 0; index < x.historySize(); index++) {
+            text.append("\nround");
+            for (int what = 0; what < 5; what++) {
+                text.append(' ').append(x.history(index, what));
+            }
+        }
+        int rule = x.setRule(0);
+        x.undo();
+        return text.append("\nrule ").append(rule).toString();
+    }
+
+    static int find(RepairAuction x, int kind, String name) {
+        append(x, name);
+        return x.find(kind);
+    }
+
+    static String output(RepairAuction x) {
+        int length = x.writeBids();
+        StringBuilder text = new StringBuilder();
+        for (int i = 0; i < length; i++) {
+            text.append((char) x.outputByte(i));
+        }
+        return text.toString();
+    }
+}
