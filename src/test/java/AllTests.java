@@ -12,6 +12,8 @@ final class AllTests {
         RoundTest.run();
         ForecastTest.run();
         OutputTest.run();
+        FaceTest.run(args[0], args[1]);
+        ModelTest.run();
         System.out.println(Check.passed() + " passed, " + Check.failed() + " failed");
         if (Check.failed() > 0) {
             System.exit(1);
