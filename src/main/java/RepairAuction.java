@@ -94,7 +94,6 @@ public final class RepairAuction {
     private final Bytes output = new Bytes(MAX_OUTPUT);
     private final Parser parser = new Parser(input);
     private final Ring ring = new Ring();
-    private final Ring parsed = new Ring();
     private final Auction auction = new Auction();
     private final Forecast forecast = new Forecast();
     private final Undo saved = new Undo();
@@ -120,13 +119,13 @@ public final class RepairAuction {
     }
 
     public int load() {
-        boolean good = parser.parse(parsed);
+        boolean good = parser.parse();
         input.cut(0);
         if (!good) {
             return PARSE_ERROR;
         }
         saved.keep(ring);
-        ring.copyFrom(parsed);
+        ring.copyFrom(parser.ring);
         return ring.groups.size;
     }
 
@@ -798,17 +797,10 @@ public final class RepairAuction {
         private int carried;
         private int next;
 
-        void clear() {
+        void clearThings() {
             nodes.clear();
             tenants.clear();
             groups.clear();
-            past.clear();
-            unitsPerRound = 1;
-            carryLimit = 0;
-            reserve = 0;
-            rule = RULE_FIRST;
-            carried = 0;
-            next = 0;
         }
 
         void copyFrom(Ring other) {
@@ -1292,7 +1284,7 @@ public final class RepairAuction {
         }
     }
 
-    /** Reads a text into a ring. Behind the first error nothing is taken any more. */
+    /** Reads a text into a ring of its own. Behind the first error nothing is taken any more. */
     private static final class Parser {
         private static final int END = 0;
         private static final int WORD = 1;
@@ -1309,7 +1301,7 @@ public final class RepairAuction {
         private static final int ENOUGH = 100000000;
 
         private final Bytes text;
-        private Ring ring;
+        private final Ring ring = new Ring();
         private int code;
         private int position;
         private int kind;
@@ -1321,9 +1313,9 @@ public final class RepairAuction {
             this.text = text;
         }
 
-        boolean parse(Ring into) {
-            ring = into;
-            ring.clear();
+        boolean parse() {
+            // No round is run on this ring, so that its history is empty and its next round is 0.
+            ring.clearThings();
             code = 0;
             end = 0;
             nextToken();

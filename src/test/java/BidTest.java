@@ -70,6 +70,14 @@ final class BidTest {
         RepairAuction free = Texts.loaded("ring bandwidth 1 carry 0 reserve 0 price first;" + head);
         free.fail(1);
         Check.yes("a reserve price of 0", free.bids(0));
+        RepairAuction one = Texts.loaded("ring bandwidth 1 carry 0 reserve 0 price first;" + head.replace("value 5", "value 1"));
+        one.fail(1);
+        one.grant(0, 1);
+        Check.same("an offer of 1", one.offer(0), 1);
+        Check.yes("is a bid", one.bids(0));
+        Check.same("it is made", one.bidder(0), 0);
+        Check.same("it gets a unit", one.outcome(0, 0), 1);
+        Check.same("it pays for it", one.outcome(0, 1), 1);
         free.setRisk(0, 0);
         Check.yes("an offer of 0 is no bid even then", !free.bids(0));
     }

@@ -325,6 +325,10 @@ final class InputTest {
         Check.same("find with a letter of another sort", Texts.find(x, 0, "Nc"), RepairAuction.NONE);
         Check.same("find seven letters", Texts.find(x, 0, "aaaaanc"), RepairAuction.NONE);
         Check.same("find nothing", x.find(0), RepairAuction.NONE);
+        RepairAuction a = Texts.loaded(Texts.RING + "node b at 0 zone 0 risk 0 room 1;node a at 1 zone 0 risk 0 room 1;");
+        Check.same("find a", Texts.find(a, 0, "a"), 1);
+        Check.same("find A", Texts.find(a, 0, "A"), RepairAuction.NONE);
+        Check.same("find aaaaaaa", Texts.find(a, 0, "aaaaaaa"), RepairAuction.NONE);
         Texts.append(x, "nd");
         Check.illegal("find(3)", () -> x.find(3));
         Check.illegal("find(-1)", () -> x.find(-1));

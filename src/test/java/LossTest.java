@@ -14,6 +14,7 @@ final class LossTest {
     static void run() {
         loss();
         lossIsRoundedStepByStep();
+        lossOfTenShards();
         lossWithout();
         expectedLoss();
         worstNode();
@@ -67,6 +68,23 @@ final class LossTest {
         Check.same("loss of three of four", x.loss(1), stepwise(new int[] {333, 999, 1, 123}, 3));
     }
 
+    private static void lossOfTenShards() {
+        int[] risks = new int[10];
+        StringBuilder text = new StringBuilder(Texts.RING);
+        for (int node = 0; node < 10; node++) {
+            risks[node] = 999 - 60 * node;
+            text.append("node ").append((char) ('a' + node)).append(" at ").append(node);
+            text.append(" zone 0 risk ").append(risks[node]).append(" room 1;");
+        }
+        RepairAuction x = Texts.loaded(text + "tenant t income 0 most 0;group g of t key 0 data 6 parity 4 size 1 value 1;");
+        Check.same("loss of ten shards", x.loss(0), stepwise(risks, 6));
+        for (int node = 0; node < 10; node++) {
+            x.setRisk(node, 999);
+        }
+        int[] same = {999, 999, 999, 999, 999, 999, 999, 999, 999, 999};
+        Check.same("loss of ten shards that nearly all fail", x.loss(0), stepwise(same, 6));
+    }
+
     private static void lossWithout() {
         RepairAuction x = Texts.loaded(Texts.SMALL);
         Check.same("lossWithout(0, 0)", x.lossWithout(0, 0), 200000000);
@@ -107,6 +125,16 @@ final class LossTest {
         Check.same("the only node left", x.worstNode(), 3);
         x.fail(3);
         Check.same("worstNode of none", x.worstNode(), RepairAuction.NONE);
+        RepairAuction sum = Texts.loaded(Texts.RING
+                + "node a at 0 zone 0 risk 100 room 9;node b at 1 zone 1 risk 100 room 9;node c at 2 zone 2 risk 100 room 9;"
+                + "node d at 3 zone 3 risk 100 room 9;tenant t income 0 most 0;"
+                + "group g of t key 0 data 1 parity 1 size 1 value 40;group h of t key 1 data 1 parity 1 size 1 value 30;"
+                + "group i of t key 2 data 1 parity 1 size 1 value 35;");
+        Check.same("g and h together lose most by b, i alone has less than h and i", sum.worstNode(), 1);
+        equalLosses();
+    }
+
+    private static void equalLosses() {
         RepairAuction equal = Texts.loaded(Texts.RING
                 + "node a at 9 zone 0 risk 0 room 1;node b at 8 zone 0 risk 0 room 1;node c at 7 zone 0 risk 0 room 1;"
                 + "tenant t income 0 most 0;group g of t key 7 data 1 parity 1 size 1 value 1;");

@@ -10,6 +10,7 @@ final class RingTest {
         clockwise();
         zoneShards();
         placing();
+        placingFromTheNextPosition();
         tenant();
         share();
         group();
@@ -128,6 +129,33 @@ final class RingTest {
         x.drain(1, false);
         x.fail(1);
         Check.same("a node that is down takes none", x.target(2), RepairAuction.NONE);
+    }
+
+    private static void placingFromTheNextPosition() {
+        RepairAuction x = Texts.loaded(Texts.RING
+                + "node a at 11 zone 0 risk 0 room 9;node b at 12 zone 1 risk 0 room 9;node c at 10 zone 2 risk 0 room 9;"
+                + "node d at 13 zone 1 risk 0 room 9;tenant t income 0 most 0;"
+                + "group g of t key 11 data 1 parity 1 size 1 value 1;");
+        Check.same("at the key", x.nodeOf(0, 0), 0);
+        Check.same("at the position behind that", x.nodeOf(0, 1), 1);
+        x.fail(1);
+        Check.same("the zone of the missing shard itself is free", x.target(0), 3);
+        x.fail(3);
+        Check.same("around the ring", x.target(0), 2);
+        x.recover(1);
+        x.fail(0);
+        Check.same("behind the first shard comes b, which has the other one, then c around the ring", x.target(0), 2);
+        x.recover(3);
+        Check.same("c is in a free zone, d is not", x.target(0), 2);
+        x.fail(2);
+        Check.same("d is all that is left", x.target(0), 3);
+        x.recover(2);
+        x.recover(0);
+        x.move(0, 1, 2);
+        x.fail(2);
+        Check.same("the position behind the old node's is a's, then comes b", x.target(0), 1);
+        x.move(0, 0, 1);
+        Check.same("now a is the first one", x.target(0), 0);
     }
 
     private static void tenant() {
