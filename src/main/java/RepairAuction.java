@@ -584,11 +584,16 @@ public final class RepairAuction {
         return (set >> element & 1) != 0;
     }
 
+    /** The lowest element of a set that is not empty. */
+    private static int lowestOf(int set) {
+        return Integer.bitCount((set & -set) - 1);
+    }
+
     private static int lowestBits(int set, int count) {
         int rest = set;
         int lowest = 0;
         for (int taken = 0; taken < count; taken++) {
-            lowest |= Integer.lowestOneBit(rest);
+            lowest |= rest & -rest;
             rest &= rest - 1;
         }
         return lowest;
@@ -958,7 +963,7 @@ public final class RepairAuction {
             if (missing == 0) {
                 return NONE;
             }
-            int shard = Integer.numberOfTrailingZeros(missing);
+            int shard = lowestOf(missing);
             int old = groups.get(group, FIRST_SHARD + shard);
             return placeFor(group, shard, nodes.get(old, NODE_POSITION) + 1);
         }
@@ -1182,7 +1187,7 @@ public final class RepairAuction {
                 if (missing == 0 || node == NONE || ring.groups.get(group, GROUP_PROGRESS) < cost) {
                     return;
                 }
-                ring.put(group, Integer.numberOfTrailingZeros(missing), node);
+                ring.put(group, lowestOf(missing), node);
                 ring.groups.increase(group, GROUP_PROGRESS, -cost);
                 repaired++;
             }
