@@ -4,6 +4,7 @@ final class AllTests {
     }
 
     public static void main(String[] args) throws Exception {
+        Sentence.open(args[0]);
         InputTest.run();
         RingTest.run();
         LossTest.run();
@@ -12,6 +13,15 @@ final class AllTests {
         RoundTest.run();
         ForecastTest.run();
         OutputTest.run();
+        EdgeInputTest.run();
+        EdgeRingTest.run();
+        EdgeLossTest.run();
+        EdgeBidTest.run();
+        EdgeRoundTest.run();
+        EdgeChangeTest.run();
+        EdgeForecastTest.run();
+        RangeTest.run();
+        Sentence.close();
         FaceTest.run(args[0], args[1]);
         ModelTest.run();
         System.out.println(Check.passed() + " passed, " + Check.failed() + " failed");

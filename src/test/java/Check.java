@@ -57,7 +57,8 @@ final class Check {
             passed++;
         } else {
             failed++;
-            System.out.println("FAULT " + fault);
+            String sentence = Sentence.latest();
+            System.out.println("FAULT " + fault + (sentence.isEmpty() ? "" : " [" + sentence + "]"));
         }
     }
 }

@@ -18,7 +18,45 @@ final class Texts {
             + "group ga of ta key 0 data 1 parity 1 size 10 value 20;"
             + "group gb of tb key 2600 data 2 parity 1 size 5 value 9999;";
 
+    /**
+     * Groups with key 0 and two shards have these on a and b, and are repaired on c, or d if c is not
+     * up. If b alone is down, each of them offers its value.
+     */
+    static final String FOUR = node("a", 0, 0, 1, 50) + node("b", 10, 1, 0, 50) + node("c", 20, 2, 0, 50)
+            + node("d", 30, 3, 0, 50);
+
     private Texts() {
+    }
+
+    static String ring(int bandwidth, int carry, int reserve, String rule) {
+        return "ring bandwidth " + bandwidth + " carry " + carry + " reserve " + reserve + " price " + rule + ";";
+    }
+
+    static String node(String name, int at, int zone, int risk, int room) {
+        return "node " + name + " at " + at + " zone " + zone + " risk " + risk + " room " + room + ";";
+    }
+
+    static String tenant(String name, int income, int most) {
+        return "tenant " + name + " income " + income + " most " + most + ";";
+    }
+
+    static String group(String name, String of, int key, int data, int parity, int size, int value) {
+        return "group " + name + " of " + of + " key " + key + " data " + data + " parity " + parity + " size " + size
+                + " value " + value + ";";
+    }
+
+    /** A group of a and b (see FOUR) whose repair costs 2 * size units. */
+    static String pair(String name, String of, int size, int value) {
+        return group(name, of, 0, 1, 1, size, value);
+    }
+
+    /** Nodes a, b, .. at positions 0, 10, .. in zones of their own (0 behind 9), with a risk and a room. */
+    static String nodes(int count, int risk, int room) {
+        StringBuilder text = new StringBuilder();
+        for (int node = 0; node < count; node++) {
+            text.append(node("" + (char) ('a' + node), 10 * node, node % 10, risk, room));
+        }
+        return text.toString();
     }
 
     static void append(RepairAuction x, String text) {
@@ -102,6 +140,87 @@ final class Texts {
         int rule = x.setRule(0);
         x.undo();
         return text.append("\nrule ").append(rule).toString();
+    }
+
+    /**
+     * All that can be seen of an object in some 400 calls, what undo() brings back, too. It tells
+     * the rule if a group pays, the carry behind two rounds, and what node's name the input is.
+     * The object is of no use behind that.
+     */
+    static String everything(RepairAuction x) {
+        StringBuilder text = new StringBuilder();
+        text.append(x.errorCode()).append(' ').append(x.errorPosition()).append(' ').append(x.undoCount());
+        text.append(" output ").append(written(x)).append(" input ").append(inputLength(x));
+        text.append(' ').append(x.find(0)).append('\n').append(brief(x));
+        for (int node = 0; node < x.count(0); node++) {
+            text.append("\nnode ").append(x.groupsOn(node));
+            for (int what = 2; what < 7; what++) {
+                text.append(' ').append(x.node(node, what));
+            }
+        }
+        for (int tenant = 0; tenant < x.count(1); tenant++) {
+            for (int what = 2; what < 5; what++) {
+                text.append(' ').append(x.tenant(tenant, what));
+            }
+        }
+        for (int group = 0; group < x.count(2); group++) {
+            text.append("\ngroup ").append(x.group(group, 6)).append(' ').append(x.outcome(group, 1));
+        }
+        while (x.undoCount() > 0) {
+            text.append("\nundo ").append(x.undo()).append(' ').append(brief(x));
+        }
+        text.append("\nrounds ").append(x.rounds(2)).append(' ').append(x.bandwidth());
+        return text.toString();
+    }
+
+    private static String brief(RepairAuction x) {
+        StringBuilder text = new StringBuilder();
+        text.append(x.bandwidth()).append(' ').append(x.nextRound()).append(' ').append(x.clearingPrice());
+        text.append(' ').append(x.damaged()).append(' ').append(x.lost()).append(' ').append(x.expectedLoss());
+        int size = x.historySize();
+        text.append(" history ").append(size);
+        if (size > 0) {
+            text.append(' ').append(x.history(0, 0)).append(' ').append(x.history(size - 1, 1));
+        }
+        return text.toString();
+    }
+
+    /** The output buffer as it is, without writing it. */
+    static String written(RepairAuction x) {
+        StringBuilder text = new StringBuilder();
+        try {
+            for (int index = 0; index < 300; index++) {
+                text.append((char) x.outputByte(index));
+            }
+        } catch (IndexOutOfBoundsException end) {
+            return text.toString();
+        }
+        return "too long";
+    }
+
+    /** How many bytes stand in the input buffer, which stays as it is. */
+    static int inputLength(RepairAuction x) {
+        try {
+            int length = x.append(0, 0, 0, 0, 0) - 20;
+            x.truncate(length);
+            return length;
+        } catch (IllegalStateException full) {
+            for (int length = 1400; length > 1380; length--) {
+                if (canTruncate(x, length)) {
+                    return length;
+                }
+            }
+            return -1;
+        }
+    }
+
+    private static boolean canTruncate(RepairAuction x, int length) {
+        try {
+            x.truncate(length);
+            return true;
+        } catch (IllegalArgumentException e) {
+            return false;
+        }
     }
 
     static int find(RepairAuction x, int kind, String name) {
