@@ -673,7 +673,7 @@ public final class RepairAuction {
         }
 
         void dropFirstRow() {
-            if (size > 0) {
+            if (size > 0 && size * columns <= cells.length) {
                 System.arraycopy(cells, columns, cells, 0, (size - 1) * columns);
                 size--;
             }

@@ -1,3 +1,5 @@
+import java.util.function.Consumer;
+
 /** The edges that section 6 and promises 34 to 36, 39 to 43, 57 and 58 name, sentence by sentence. */
 final class EdgeChangeTest {
     private static final int UP = 0;
@@ -206,6 +208,10 @@ final class EdgeChangeTest {
         Check.unfit("grant(1, 10)", () -> x.grant(1, 10));
         Check.unfit("grant(1, 999999)", () -> x.grant(1, 999999));
         Check.same("the purse is as it was", x.tenant(1, 2), 9999990);
+        Check.same("the last call is the one that was not refused", x.undoCount(), 8);
+        x.undo();
+        Check.same("and it is undone", x.tenant(1, 2), 8999991);
+        Check.same("grant(1, 999999) again", x.grant(1, 999999), 9999990);
         Check.same("grant(1, 9)", x.grant(1, 9), 9999999);
         Check.unfit("grant(1, 1)", () -> x.grant(1, 1));
         Check.illegal("grant(1, 0)", () -> x.grant(1, 0));
@@ -252,37 +258,40 @@ final class EdgeChangeTest {
     }
 
     /** Checks that the call can be undone, and that all is then as it was. */
-    private static void undone(RepairAuction x, String call, Runnable change) {
+    private static void undone(String call, RepairAuction x, Consumer<RepairAuction> change) {
         int calls = x.undoCount();
         String before = Texts.state(x);
-        change.run();
+        change.accept(x);
         Check.same(call + ": undoCount", x.undoCount(), calls + 1);
         Check.yes(call + " changes something", !Texts.state(x).equals(before));
         Check.same("undo of " + call, x.undo(), calls);
         Check.same("the state behind undo of " + call, Texts.state(x), before);
     }
 
-    private static void undoableCalls() {
-        Sentence.of(0, "6. UNDO. Each successful load(), and each call of fail(), recover(), drain(), round(), rounds(), setRisk(), setBandwidth(), "
-                + "setRule(), grant() and move() that does not throw can be undone;");
+    private static RepairAuction small() {
         RepairAuction x = Texts.loaded(Texts.SMALL);
         x.fail(1);
         x.grant(0, 25000);
         x.round();
-        undone(x, "load()", () -> Texts.load(x, ONE));
-        undone(x, "fail()", () -> x.fail(0));
-        undone(x, "recover()", () -> x.recover(1));
-        undone(x, "drain()", () -> x.drain(0, true));
-        undone(x, "round()", () -> x.round());
-        undone(x, "rounds()", () -> x.rounds(100));
-        undone(x, "setRisk()", () -> x.setRisk(0, 0));
-        undone(x, "setBandwidth()", () -> x.setBandwidth(1));
-        undone(x, "setRule()", () -> x.setRule(1));
-        undone(x, "grant()", () -> x.grant(1, 1));
-        undone(x, "move()", () -> x.move(0, 0, 2));
-        RepairAuction y = new RepairAuction();
-        undone(y, "load() of a new object", () -> Texts.load(y, Texts.SMALL));
-        undone(y, "round() of a new object", () -> y.round());
+        return x;
+    }
+
+    private static void undoableCalls() {
+        Sentence.of(0, "6. UNDO. Each successful load(), and each call of fail(), recover(), drain(), round(), rounds(), setRisk(), setBandwidth(), "
+                + "setRule(), grant() and move() that does not throw can be undone;");
+        undone("load()", small(), x -> Texts.load(x, ONE));
+        undone("fail()", small(), x -> x.fail(0));
+        undone("recover()", small(), x -> x.recover(1));
+        undone("drain()", small(), x -> x.drain(0, true));
+        undone("round()", small(), x -> x.round());
+        undone("rounds()", small(), x -> x.rounds(9));
+        undone("setRisk()", small(), x -> x.setRisk(0, 0));
+        undone("setBandwidth()", small(), x -> x.setBandwidth(1));
+        undone("setRule()", small(), x -> x.setRule(1));
+        undone("grant()", small(), x -> x.grant(1, 1));
+        undone("move()", small(), x -> x.move(0, 0, 2));
+        undone("load() of a new object", new RepairAuction(), x -> Texts.load(x, Texts.SMALL));
+        undone("round() of a new object", new RepairAuction(), x -> x.round());
         RepairAuction same = Texts.loaded(Texts.SMALL);
         same.setRisk(0, 100);
         same.setBandwidth(100);

@@ -29,7 +29,7 @@ final class EdgeForecastTest {
     }
 
     private static void predict(RepairAuction x) {
-        for (int rounds : new int[] {0, 1, 300}) {
+        for (int rounds : new int[] {1, 300}) {
             x.soldIn(rounds);
             for (int tenant = 0; tenant < x.count(1); tenant++) {
                 x.purseAfter(tenant, rounds);
@@ -38,9 +38,7 @@ final class EdgeForecastTest {
         for (int group = 0; group < x.count(2); group++) {
             x.roundsToRepair(group);
             x.outcome(group, 0);
-            x.outcome(group, 1);
             x.target(group);
-            x.bids(group);
             x.lossWithout(group, 0);
         }
         x.roundsToCalm();

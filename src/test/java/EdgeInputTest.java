@@ -428,6 +428,11 @@ final class EdgeInputTest {
         bad(1, ONE + Texts.nodes(16, 0, 1) + "^nod");
         bad(4, ONE + tenants(6) + "^tenant t");
         bad(4, ONE + Texts.FOUR + TENANT + groups(10) + "^group g of nobody");
+        for (String word : new String[] {"groups", "grou", "at", ";", "5", "ring"}) {
+            bad(1, ONE + Texts.FOUR + TENANT + groups(10) + "^" + word);
+            bad(1, ONE + tenants(6) + "^" + word);
+            bad(1, ONE + Texts.nodes(16, 0, 1) + "^" + word);
+        }
         String all = ONE + Texts.nodes(16, 0, 1) + tenants(6);
         good(all + Texts.group("g", "t", 0, 1, 1, 1, 1));
         bad(4, all + "^node");
@@ -637,6 +642,11 @@ final class EdgeInputTest {
             Check.same("find " + text, Texts.find(a, 0, text), NONE);
         }
         Check.same("find a", Texts.find(a, 0, "a"), 0);
+        for (char other = 0; other < 256; other++) {
+            RepairAuction ca = Texts.loaded(ONE + Texts.node("ca", 0, 0, 0, 9));
+            Check.same("find b and byte " + (int) other, Texts.find(ca, 0, "b" + other), NONE);
+            Check.same("find c and byte " + (int) other, Texts.find(ca, 0, "c" + other), other == 'a' ? 0 : NONE);
+        }
         Check.same("find in an empty ring", Texts.find(new RepairAuction(), 0, "b"), NONE);
         Check.same("nothing in an empty ring", new RepairAuction().find(2), NONE);
         Sentence.of(7, "The buffer is empty afterwards.");

@@ -284,6 +284,9 @@ final class EdgeLossTest {
         x.fail(12);
         x.drain(13, true);
         Check.same("a draining node is not down", x.fewestFailuresSet(), 0x2000);
+        RepairAuction first = Texts.loaded(ONE + Texts.nodes(16, 0, 50) + TENANT + Texts.group("g", "t", 100, 1, 1, 1, 1)
+                + Texts.group("h", "t", 120, 2, 1, 1, 1));
+        Check.same("g's nodes are lower than h's", first.fewestFailuresSet(), 0x0c00);
         RepairAuction last = Texts.loaded(ONE + Texts.nodes(16, 0, 50) + TENANT + Texts.group("g", "t", 140, 1, 1, 1, 1));
         last.fail(14);
         Check.same("the highest bit that there is", last.fewestFailuresSet(), 0x8000);

@@ -450,7 +450,7 @@ final class EdgeRingTest {
     private static void share() {
         Sentence.of(15, "Returns the units that the tenant has bought, divided by the units that all tenants have bought, as a double;");
         RepairAuction x = Texts.loaded(Texts.ring(99, 0, 0, "first") + Texts.FOUR + Texts.tenant("t", 9, 9) + Texts.tenant("u", 9, 9)
-                + Texts.tenant("v", 9, 9) + Texts.pair("g", "t", 1, 1) + Texts.pair("h", "u", 2, 1));
+                + Texts.tenant("v", 9, 9) + Texts.pair("g", "t", 1, 3) + Texts.pair("h", "u", 2, 2));
         x.fail(1);
         x.round();
         Check.same("two of six", x.share(0), 2.0 / 6.0);

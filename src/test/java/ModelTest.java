@@ -58,7 +58,7 @@ final class ModelTest {
     }
 
     private void play(List<Method> methods) throws ReflectiveOperationException {
-        for (int tries = 0; real.count(0) == 0 && tries < 3 && random.nextInt(20) > 0; tries++) {
+        for (int tries = 0; model.count(0) == 0 && tries < 3 && random.nextInt(20) > 0; tries++) {
             load();
         }
         while (same && calls < CALLS) {
@@ -128,17 +128,17 @@ final class ModelTest {
     private int mostOf(String role) {
         switch (role) {
             case "n":
-                return real.count(0) - 1;
+                return model.count(0) - 1;
             case "t":
-                return real.count(1) - 1;
+                return model.count(1) - 1;
             case "g":
-                return real.count(2) - 1;
+                return model.count(2) - 1;
             case "s":
                 return random.nextInt(6);
             case "h":
-                return real.historySize() - 1;
+                return model.historySize() - 1;
             case "m":
-                return (1 << real.count(0)) - 1;
+                return (1 << model.count(0)) - 1;
             default:
                 return Integer.parseInt(role);
         }

@@ -150,13 +150,12 @@ final class Texts {
     static String everything(RepairAuction x) {
         StringBuilder text = new StringBuilder();
         text.append(x.errorCode()).append(' ').append(x.errorPosition()).append(' ').append(x.undoCount());
-        text.append(" output ").append(written(x)).append(" input ").append(inputLength(x));
+        text.append(" output ").append(sampled(x)).append(" input ").append(inputLength(x));
         text.append(' ').append(x.find(0)).append('\n').append(brief(x));
         for (int node = 0; node < x.count(0); node++) {
             text.append("\nnode ").append(x.groupsOn(node));
-            for (int what = 2; what < 7; what++) {
-                text.append(' ').append(x.node(node, what));
-            }
+            text.append(' ').append(x.node(node, 2)).append(' ').append(x.node(node, 4)).append(' ').append(x.node(node, 5));
+            text.append(' ').append(x.node(node, 6));
         }
         for (int tenant = 0; tenant < x.count(1); tenant++) {
             for (int what = 2; what < 5; what++) {
@@ -167,7 +166,8 @@ final class Texts {
             text.append("\ngroup ").append(x.group(group, 6)).append(' ').append(x.outcome(group, 1));
         }
         while (x.undoCount() > 0) {
-            text.append("\nundo ").append(x.undo()).append(' ').append(brief(x));
+            text.append("\nundo ").append(x.undo()).append(' ').append(x.bandwidth()).append(' ').append(x.nextRound());
+            text.append(' ').append(x.damaged()).append(' ').append(x.expectedLoss());
         }
         text.append("\nrounds ").append(x.rounds(2)).append(' ').append(x.bandwidth());
         return text.toString();
@@ -183,6 +183,27 @@ final class Texts {
             text.append(' ').append(x.history(0, 0)).append(' ').append(x.history(size - 1, 1));
         }
         return text.toString();
+    }
+
+    /** The length of the output buffer and some of its bytes, in some 30 calls. */
+    private static String sampled(RepairAuction x) {
+        int length = 0;
+        for (int step = 256; step > 0; step /= 2) {
+            length += hasByte(x, length + step - 1) ? step : 0;
+        }
+        StringBuilder text = new StringBuilder().append(length);
+        for (int index = 0; index < length; index += 9) {
+            text.append(' ').append(x.outputByte(index));
+        }
+        return text.toString();
+    }
+
+    private static boolean hasByte(RepairAuction x, int index) {
+        try {
+            return x.outputByte(index) > 0;
+        } catch (IndexOutOfBoundsException e) {
+            return false;
+        }
     }
 
     /** The output buffer as it is, without writing it. */
