@@ -29,6 +29,7 @@ final class ReadmeTest {
         test.errorCodes();
         test.ranges();
         test.calls();
+        test.values();
         test.exceptions();
     }
 
@@ -121,6 +122,20 @@ final class ReadmeTest {
             }
         }
         Check.same("the calls of README.md", String.join(" ", mine), String.join(" ", due));
+    }
+
+    /** The values that "what" chooses are told in DOC.md's words. */
+    private void values() {
+        String mine = section("The calls").replaceAll("\\s+", " ") + "- ";
+        int told = 0;
+        for (String part : document.split("\n## Promise \\d+: ")) {
+            String name = part.substring(0, part.indexOf('\n'));
+            for (String values : found(part, "\n- `what`: (.*)\n")) {
+                told++;
+                Check.yes("README.md tells the values of " + name, mine.contains(" - `" + name + "`: " + values + " "));
+            }
+        }
+        Check.same("calls that have values to choose from", told, 5);
     }
 
     private void exceptions() {
